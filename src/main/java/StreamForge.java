@@ -368,10 +368,10 @@ public final class StreamForge {
         int target;
         int label;
         /** The text, the replacement or FROM, as a part of the program's text. */
-        int from;
-        int to;
-        /** Where TO begins in the program's text. */
-        int exchange;
+        int textFrom;
+        int textTo;
+        /** Where TO begins in the program's text; it is as long as FROM. */
+        int counterpart;
         boolean all;
         boolean print;
         /** The digit of s, 0 without. */
@@ -379,12 +379,10 @@ public final class StreamForge {
         /** Whether the second address is waited for in the present run. */
         boolean inRange;
 
-        void reset(int itsAt) {
-            kind = 0;
-            at = itsAt;
+        /** Commands are used again: what a script leaves out must not stay from another one. */
+        void reset() {
             addresses = 0;
             inverted = false;
-            target = 0;
             label = NONE;
             all = false;
             print = false;
@@ -727,14 +725,13 @@ public final class StreamForge {
                 return cursor.refuse(0);
             }
             command = program.commands[program.size];
-            command.reset(cursor.at);
+            command.reset();
             program.size++;
             return true;
         }
 
         private boolean readAddresses() {
-            int c = cursor.look(0);
-            if (c == '$' || c == '/' || (c >= '0' && c <= '9')) {
+            if (startsAddress(cursor.look(0))) {
                 if (!readAddress(command.first)) {
                     return false;
                 }
@@ -756,6 +753,10 @@ public final class StreamForge {
             return true;
         }
 
+        private static boolean startsAddress(int c) {
+            return c == '$' || c == '/' || (c >= '1' && c <= '9');
+        }
+
         private void passBlanks() {
             for (int step = 0; step < SCRIPT_ROOM && cursor.look(0) == ' '; step++) {
                 cursor.at++;
@@ -764,7 +765,7 @@ public final class StreamForge {
 
         private boolean readAddress(Address address) {
             int c = cursor.look(0);
-            if (c != '$' && c != '/' && !(c >= '1' && c <= '9')) {
+            if (!startsAddress(c)) {
                 return cursor.refuse(0);
             }
             cursor.at++;
@@ -864,9 +865,9 @@ public final class StreamForge {
             if (!cursor.pass(' ')) {
                 return false;
             }
-            command.from = cursor.at;
-            command.to = program.text.newlineFrom(cursor.at);
-            cursor.at = command.to;
+            command.textFrom = cursor.at;
+            command.textTo = program.text.newlineFrom(cursor.at);
+            cursor.at = command.textTo;
             return true;
         }
 
@@ -877,7 +878,7 @@ public final class StreamForge {
         }
 
         private boolean readReplacement() {
-            command.from = cursor.at;
+            command.textFrom = cursor.at;
             for (int step = 0; step <= SCRIPT_ROOM && cursor.look(0) != '/'; step++) {
                 int c = cursor.look(0);
                 if (c == NONE || c == NEWLINE) {
@@ -894,7 +895,7 @@ public final class StreamForge {
                 }
                 cursor.at++;
             }
-            command.to = cursor.at;
+            command.textTo = cursor.at;
             return cursor.pass('/');
         }
 
@@ -926,17 +927,17 @@ public final class StreamForge {
             if (!cursor.pass('/')) {
                 return false;
             }
-            command.from = cursor.at;
+            command.textFrom = cursor.at;
             for (int step = 0; step <= SCRIPT_ROOM && cursor.look(0) != '/'; step++) {
                 if (!isExchangeable(cursor.look(0)) || wasExchanged(cursor.look(0))) {
                     return cursor.refuse(0);
                 }
                 cursor.at++;
             }
-            command.to = cursor.at;
+            command.textTo = cursor.at;
             cursor.at++;
-            command.exchange = cursor.at;
-            for (int i = command.from; i < command.to; i++) {
+            command.counterpart = cursor.at;
+            for (int i = command.textFrom; i < command.textTo; i++) {
                 if (cursor.look(0) == '/' || !isExchangeable(cursor.look(0))) {
                     return cursor.refuse(0);
                 }
@@ -950,7 +951,7 @@ public final class StreamForge {
         }
 
         private boolean wasExchanged(int c) {
-            for (int i = command.from; i < cursor.at; i++) {
+            for (int i = command.textFrom; i < cursor.at; i++) {
                 if (program.text.at(i) == c) {
                     return true;
                 }
@@ -1120,7 +1121,7 @@ public final class StreamForge {
         private boolean over;
         /** Whether an s replaced something that no t has seen yet in this cycle. */
         private boolean replaced;
-        /** Whether the range of the command looked at last ended with that look. */
+        /** Whether the range that was looked at last ended with that look. */
         private boolean rangeEnds;
 
         void edit(Program itsProgram, Row[] itsLines, int itsLineCount) {
@@ -1210,17 +1211,18 @@ public final class StreamForge {
 
         /** Text by text, so that those which find room come out before one that does not. */
         private void tellAppended() {
-            for (int from = 0; from < appended.length; from++) {
-                int to = appended.newlineFrom(from);
-                tell(appended, from, to);
-                from = to;
+            int from = 0;
+            for (int i = 0; i < appended.length; i++) {
+                if (appended.chars[i] == NEWLINE) {
+                    tell(appended, from, i);
+                    from = i + 1;
+                }
             }
             appended.empty();
         }
 
         private boolean isDone(Command command) {
             boolean chosen = true;
-            rangeEnds = true;
             if (command.addresses == 1) {
                 chosen = fits(command.first);
             } else if (command.addresses == 2 && command.inRange) {
@@ -1253,7 +1255,7 @@ public final class StreamForge {
                 case 's': substitute(command); break;
                 case 'y': exchange(command); break;
                 case 'a': append(command); break;
-                case 'i': tell(program.text, command.from, command.to); break;
+                case 'i': tell(program.text, command.textFrom, command.textTo); break;
                 case 'c': change(command); break;
                 case 'd': endCycle(false); break;
                 case 'D': deleteFirst(); break;
@@ -1280,17 +1282,17 @@ public final class StreamForge {
         }
 
         private void append(Command command) {
-            if (!appended.hasRoom(command.to - command.from + 1)) {
+            if (!appended.hasRoom(command.textTo - command.textFrom + 1)) {
                 throw new IndexOutOfBoundsException();
             }
-            appended.addPart(program.text, command.from, command.to);
+            appended.addPart(program.text, command.textFrom, command.textTo);
             appended.add(NEWLINE);
         }
 
         private void change(Command command) {
             space.empty();
             if (command.addresses < 2 || command.inverted || rangeEnds) {
-                tell(program.text, command.from, command.to);
+                tell(program.text, command.textFrom, command.textTo);
             }
             endCycle(false);
         }
@@ -1360,12 +1362,12 @@ public final class StreamForge {
 
         private void exchange(Command command) {
             for (int i = 0; i < space.length; i++) {
-                int place = command.from;
-                while (place < command.to && program.text.at(place) != space.chars[i]) {
+                int place = command.textFrom;
+                while (place < command.textTo && program.text.at(place) != space.chars[i]) {
                     place++;
                 }
-                if (place < command.to) {
-                    space.chars[i] = (char) program.text.at(command.exchange + place - command.from);
+                if (place < command.textTo) {
+                    space.chars[i] = (char) program.text.at(command.counterpart + place - command.textFrom);
                 }
             }
         }
@@ -1378,7 +1380,8 @@ public final class StreamForge {
             int endBefore = NONE;
             int from = 0;
             for (int turn = 0; turn <= SPACE_ROOM && from <= space.length; turn++) {
-                if (!matcher.find(program.items, command.pattern, space, from)) {
+                boolean enough = made > 0 && !command.all;
+                if (enough || !matcher.find(program.items, command.pattern, space, from)) {
                     break;
                 }
                 boolean empty = matcher.begin == matcher.end;
@@ -1422,7 +1425,7 @@ public final class StreamForge {
         }
 
         private void draftReplacement(Command command) {
-            for (int i = command.from; i < command.to; i++) {
+            for (int i = command.textFrom; i < command.textTo; i++) {
                 int c = program.text.at(i);
                 if (c == '&') {
                     draftPart(matcher.begin, matcher.end);

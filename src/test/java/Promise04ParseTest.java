@@ -78,12 +78,15 @@ public final class Promise04ParseTest {
         Checks.parses("s/\\(^a$\\)\\1\\(\\)\\2\\(b*\\)\\3/x/", 1);
         Checks.parses("s/$*a^*/x/", 1);
         Checks.isNone("s/*/x/", 2);
+        Checks.isNone("/a/,/*b/p", 5);
         Checks.isNone("s/^*/x/", 3);
         Checks.isNone("s/a**/x/", 4);
         Checks.isNone("s/a*b*c*/x/", 7);
         Checks.isNone("s/\\(a\\)*/x/", 7);
         Checks.isNone("s/\\(*a\\)/x/", 4);
         Checks.isNone("s/\\(a\\)\\1*/x/", 9);
+        Checks.isNone("s/a\\(*b\\)/x/", 5);
+        Checks.isNone("s/\\(a\\)b\\1*/x/", 10);
         Checks.isNone("s/\\(a\\1\\)/x/", 5);
         Checks.isNone("s/\\(a\\)\\2/x/", 7);
         Checks.isNone("s/\\(a\\(b\\)\\)/x/", 5);

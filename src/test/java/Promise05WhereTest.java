@@ -44,6 +44,9 @@ public final class Promise05WhereTest {
         Checks.isNone("/\\(" + fourteen + "$\\)/p", 17);
         Checks.isNone("/" + fourteen + "\\", 16);
         Checks.isNone("/\\(\\)\\(\\)\\(\\)" + fourteen + "\\", 27);
+        Checks.isNone("/\\(\\)\\(\\)\\(" + fourteen + "\\", 26);
+        Checks.parses("/\\(a\\)aaaaaaaaaaaa\\1/p", 1);
+        Checks.isNone("/\\(a\\)\\1aaaaaaaaaaaaa/p", 20);
         Checks.parses("/aaaaaaaaaaaaa*a*/p", 1);
         Checks.isNone("/a*b*[a-c]*/p", 10);
         String forty = "p;".repeat(39) + "p";

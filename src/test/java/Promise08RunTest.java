@@ -32,6 +32,9 @@ public final class Promise08RunTest {
         String[] twelve = new String[12];
         Arrays.fill(twelve, "");
         Checks.edits("$=;d", "12\n", twelve);
+        Checks.edits("10=;d", "10\n", twelve);
+        Checks.edits("9,11!d;=;d", "9\n10\n11\n", twelve);
+        Checks.edits("99,1p;12!d;=;d", "12\n", twelve);
         Checks.edits("2q;p", "a\na\nb\n", "a", "b", "c");
     }
 
@@ -102,6 +105,10 @@ public final class Promise08RunTest {
         Checks.edits("s/\\(.\\)\\(.\\)/\\2\\1/g", "badce\n", "abcde");
         Checks.edits("s/b/[&\\&\\/\\\\\\n]/", "a[b&/\\\n]c\n", "abc");
         Checks.edits("s/a//g", "b\n", "aabaa");
+        Checks.edits("s/\\(.\\)\\(.\\)\\(.\\)/\\3\\2\\1/", "cbad\n", "abcd");
+        StreamForge often = Checks.edits("s/.*/&&&/;s/x*//g", "12345678901234567890".repeat(3) + "\n",
+                "12345678901234567890");
+        Checks.answers("a replacement at each place", 62, () -> often.ran(4));
         Checks.edits("s/\\(a*\\)b\\1/<\\1>/", "a<aa>\n", "aaabaa");
     }
 
@@ -205,6 +212,9 @@ public final class Promise08RunTest {
         Checks.breaks(nearly + "p", NO_ROOM, before + "\n", lines);
         Checks.breaks(nearly + "=", NO_ROOM, before, lines);
         Checks.breaks(nearly + "c x", NO_ROOM, before, lines);
+        StreamForge empty = Checks.breaks(nearly + "s/^/x/p", NO_ROOM, before, lines);
+        Checks.equal("s whose p lacks room for its 10", Checks.space(empty), "");
+        Checks.breaks(nearly + "s/^//p", NO_ROOM, before + "\n", lines);
     }
 
     private static void roomOfAppended() {
