@@ -2,15 +2,17 @@
 public final class Promise02ScriptTest {
     public static void main(String[] args) {
         bytesComeInOrder();
-        wrongBytes();
+        zerosAreLeftOut();
+        everyByteAtEveryPlace();
+        oneWrongByteIsEnough();
         room();
+        roomForAWholeWord();
         Checks.end();
     }
 
     private static void bytesComeInOrder() {
         StreamForge forge = new StreamForge();
-        Checks.answers("script(0)", 0, () -> forge.script(0));
-        Checks.answers("bytes with zeros between", 3, () -> forge.script(0x6900200000007800L));
+        Checks.answers("three bytes", 3, () -> forge.script(Checks.word("i x")));
         Checks.answers("eight bytes", 11, () -> forge.script(Checks.word("yz\n=\np;p")));
         Checks.answers("parse()", 4, forge::parse);
         Checks.feed(forge, "L");
@@ -18,36 +20,71 @@ public final class Promise02ScriptTest {
         Checks.equal("output", Checks.output(forge), "xyz\n1\nL\nL\nL\n");
     }
 
-    private static void wrongBytes() {
+    private static void zerosAreLeftOut() {
         StreamForge forge = new StreamForge();
-        forge.script(Checks.word("p"));
-        for (int wrong : new int[] {1, 9, 11, 13, 31, 127, 128, 255}) {
+        Checks.answers("no byte", 0, () -> forge.script(0));
+        Checks.answers("zeros between", 3, () -> forge.script(0x6900200000007800L));
+        Checks.answers("no byte", 3, () -> forge.script(0));
+        Checks.answers("zeros behind", 4, () -> forge.script(0x7900000000000000L));
+        Checks.answers("zeros before", 5, () -> forge.script(0x7AL));
+        forge.parse();
+        Checks.feed(forge, "L");
+        forge.run();
+        Checks.equal("output", Checks.output(forge), "xyz\nL\n");
+    }
+
+    private static void everyByteAtEveryPlace() {
+        for (int b = 1; b <= 255; b++) {
+            StreamForge forge = new StreamForge();
+            boolean good = b == 10 || (b >= 32 && b <= 126);
             for (int place = 0; place < 8; place++) {
-                long w = (long) wrong << (8 * place);
-                Checks.refuses("script(" + w + ")", IllegalArgumentException.class, () -> forge.script(w));
+                long w = (long) b << (8 * place);
+                String what = "script of byte " + b + " at place " + place;
+                if (good) {
+                    Checks.answers(what, place + 1, () -> forge.script(w));
+                } else {
+                    Checks.refuses(what, Checks.WRONG, () -> forge.script(w));
+                }
             }
+            Checks.answers("characters of byte " + b, good ? 8 : 0, () -> forge.count(0));
         }
-        Checks.refuses("a wrong byte behind good ones", IllegalArgumentException.class,
-                () -> forge.script(Checks.word("p;p\t")));
-        Checks.answers("nothing has come", 1, () -> forge.count(0));
-        for (int good : new int[] {10, 32, 126}) {
-            int due = forge.count(0) + 1;
-            Checks.answers("script(" + good + ")", due, () -> forge.script(good));
+    }
+
+    private static void oneWrongByteIsEnough() {
+        for (int place = 0; place < 8; place++) {
+            long wrong = Checks.word("p;p;p;p;") ^ (long) 0x80 << (8 * place);
+            Checks.leavesAll("a wrong byte among good ones", Checks.WRONG,
+                    () -> Checks.ran("s/a/b/", "a"), forge -> forge.script(wrong));
+        }
+        for (long wrong : new long[] {-1, Long.MIN_VALUE, Long.MAX_VALUE}) {
+            Checks.leavesAll("script(" + wrong + ")", Checks.WRONG,
+                    () -> Checks.ran("s/a/b/", "a"), forge -> forge.script(wrong));
         }
     }
 
     private static void room() {
-        StreamForge forge = new StreamForge();
-        for (int i = 0; i < 29; i++) {
-            forge.script(Checks.word(";;;;;;;;"));
-        }
-        Checks.answers("up to 239", 239, () -> forge.script(Checks.word(";;;;;;;")));
-        Checks.refuses("241 characters", IllegalStateException.class, () -> forge.script(Checks.word("pp")));
+        StreamForge forge = Checks.written(";".repeat(239));
+        Checks.answers("239 characters", 239, () -> forge.count(0));
+        Checks.refuses("two more", Checks.NOT_NOW, () -> forge.script(Checks.word("pp")));
         Checks.answers("nothing has come", 239, () -> forge.count(0));
         Checks.answers("the 240th", 240, () -> forge.script(Checks.word("p")));
         Checks.answers("nothing to a full script", 240, () -> forge.script(0));
-        Checks.refuses("the 241st", IllegalStateException.class, () -> forge.script(Checks.word("p")));
-        Checks.refuses("a wrong byte to a full script", IllegalArgumentException.class, () -> forge.script(9));
+        Checks.refuses("the 241st", Checks.NOT_NOW, () -> forge.script(Checks.word("p")));
+        Checks.refuses("eight more", Checks.NOT_NOW, () -> forge.script(Checks.word("pppppppp")));
+        Checks.answers("nothing has come", 240, () -> forge.count(0));
         Checks.answers("parse of a full script", 1, forge::parse);
+        Checks.leavesAll("the 241st character", Checks.NOT_NOW,
+                () -> Checks.ran(" ".repeat(239) + "p", "a"), full -> full.script('p'));
+    }
+
+    private static void roomForAWholeWord() {
+        StreamForge fits = Checks.written(";".repeat(232));
+        Checks.answers("eight to 232", 240, () -> fits.script(Checks.word("p;p;p;p;")));
+        Checks.answers("their commands", 4, fits::parse);
+        StreamForge tooMany = Checks.written(";".repeat(233));
+        Checks.refuses("eight to 233", Checks.NOT_NOW, () -> tooMany.script(Checks.word("p;p;p;p;")));
+        Checks.answers("none of them has come", 233, () -> tooMany.count(0));
+        Checks.answers("no commands", 0, tooMany::parse);
+        Checks.answers("seven to 233", 240, () -> tooMany.script(0x703B703B703B7000L));
     }
 }

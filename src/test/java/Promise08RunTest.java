@@ -1,243 +1,215 @@
 import java.util.Arrays;
 
-/** Promise 8: what a run does, command by command, and what ends it. */
+/** Promise 8: what a run answers, and where it finds no room or has begun too many commands. */
 public final class Promise08RunTest {
-    private static final Class<IndexOutOfBoundsException> NO_ROOM = IndexOutOfBoundsException.class;
+    private static final String LINE = "abcdefghijklmnopqrstuvwx";
+    private static final String TEN = "0123456789";
 
     public static void main(String[] args) {
-        Checks.refuses("run of nothing", IllegalStateException.class, () -> new StreamForge().run());
-        plainRuns();
-        addresses();
-        ranges();
-        blocksAndBranches();
-        substitutions();
-        exchangesAndTexts();
-        changes();
-        deletions();
-        nextLines();
-        holds();
-        roomOfSpaceAndHold();
-        roomOfOutput();
-        roomOfAppended();
-        tooManyCommands();
+        answers();
+        nothingParsed();
+        roomForNextLines();
+        roomOfTheSpace();
+        roomOfTheHold();
+        fullSpaceAndHold();
+        roomOfTheOutput();
+        roomOfTheOutputForWhatIsAppended();
+        roomOfTheOutputForD();
+        fullOutput();
+        roomOfWhatIsAppended();
+        appendedInEachCycle();
+        atMostTwoHundredCommands();
+        whatCountsAsBegun();
         runsAreNew();
+        whatAThrowLeaves();
         Checks.end();
     }
 
-    private static void plainRuns() {
-        Checks.edits("", "");
-        Checks.edits("", "a\n\nb\n", "a", "", "b");
-        Checks.edits("p", "a\na\n", "a");
-        Checks.edits("=", "1\na\n2\nb\n", "a", "b");
-        String[] twelve = new String[12];
-        Arrays.fill(twelve, "");
-        Checks.edits("$=;d", "12\n", twelve);
-        Checks.edits("10=;d", "10\n", twelve);
-        Checks.edits("9,11!d;=;d", "9\n10\n11\n", twelve);
-        Checks.edits("99,1p;12!d;=;d", "12\n", twelve);
-        Checks.edits("2q;p", "a\na\nb\n", "a", "b", "c");
-    }
-
-    private static void addresses() {
-        Checks.edits("2d", "a\nc\n", "a", "b", "c");
-        Checks.edits("$d", "a\nb\n", "a", "b", "c");
-        Checks.edits("/b/d", "a\nc\n", "a", "b", "c");
-        Checks.edits("2!d", "b\n", "a", "b", "c");
-        Checks.edits("/^b$/! d", "b\n", "a", "b", "bb");
-        Checks.edits("!d", "a\n", "a");
-        Checks.edits("//d", "", "a", "");
-        Checks.edits("N;2s/$/!/", "a\nb!\nc\n", "a", "b", "c");
-    }
-
-    private static void ranges() {
-        Checks.edits("2,3d", "a\nd\n", "a", "b", "c", "d");
-        Checks.edits("2,3!d", "b\nc\n", "a", "b", "c", "d");
-        Checks.edits("3,2d", "a\nb\nd\n", "a", "b", "c", "d");
-        Checks.edits("2,2d", "a\nc\nd\n", "a", "b", "c", "d");
-        Checks.edits("/b/,/b/d", "a\nd\n", "a", "b", "c", "b", "d");
-        Checks.edits("/b/,$d", "a\n", "a", "b", "c");
-        Checks.edits("/x/,1d", "a\na\n", "a", "x", "a", "x");
-        Checks.edits("/x/,/y/d", "a\nb\n", "a", "x", "c", "y", "b", "x", "d");
-        // a number that was passed by still ends the range, where it is looked at next
-        Checks.edits("/a/,2s/^/>/;/a/{n;n}", ">a\nb\nc\n>d\ne\n", "a", "b", "c", "d", "e");
-        // looked at each time it is come to, also twice on a line
-        Checks.edits(":a;/bb/,/a/=;s/b//;ta", "1\n1\na\n", "abb");
-        // a range whose command is not come to does not begin
-        Checks.edits("2{1,3d}", "a\nb\nc\n", "a", "b", "c");
-    }
-
-    private static void blocksAndBranches() {
-        Checks.edits("2{p;s/b/x/};s/$/./", "a.\nb\nx.\n", "a", "b");
-        Checks.edits("1{2{d};p}", "a\na\nb\n", "a", "b");
-        Checks.edits("1!{}", "a\nb\n", "a", "b");
-        Checks.edits("b;d", "a\n", "a");
-        Checks.edits("bx;d;:x;s/a/b/", "b\n", "a");
-        Checks.edits("bx;{d;:x;s/a/b/};s/b/c/", "c\n", "a");
-        Checks.edits("1bx;s/$/!/;:x", "a\nb!\n", "a", "b");
-        Checks.edits(":a;s/^.$/0&/;s/^..$/0&/;ta", "007\n", "7");
-        Checks.edits("s/a/b/;t;s/$/!/", "b\nc!\n", "a", "c");
-        Checks.edits("s/a/b/;tx;:x;t;s/$/!/", "b!\n", "a");
-        Checks.edits("s/a/b/;n;t;s/$/!/", "b\nc\n", "a", "c");
-        // a new cycle forgets, also one that D begins
-        Checks.edits("2t;s/a/b/;2s/$/!/", "b\nc!\n", "a", "c");
-        Checks.edits("1{N;s/a/x/;D};tz;s/$/!/;:z", "b!\n", "a", "b");
-        Checks.edits("1!ty;s/a/x/;d;:y", "", "a", "a");
-    }
-
-    private static void substitutions() {
-        Checks.edits("s/a/b/", "baa\n", "aaa");
-        Checks.edits("s/a/b/g", "bbb\n", "aaa");
-        Checks.edits("s/a/b/2", "aba\n", "aaa");
-        Checks.edits("s/a/b/2g", "abb\n", "aaa");
-        Checks.edits("s/a/b/4", "aaa\n", "aaa");
-        Checks.edits("s/a/b/p", "b\nb\nc\n", "a", "c");
-        Checks.edits("s/^a/b/g", "baa\n", "aaa");
-        Checks.edits("s/a$/b/g", "aab\n", "aaa");
-        Checks.edits("s//-/g", "-a-b-\n", "ab");
-        Checks.edits("s/x*/-/g", "-b-a-c-\n-\n", "baxxc", "");
-        Checks.edits("s/x*/-/2", "b-axxc\n", "baxxc");
-        Checks.edits("s/x*/-/3", "ba-c\n", "baxxc");
-        Checks.edits("s/x*/-/4", "baxxc-\n", "baxxc");
-        Checks.edits("s/x*/-/3g", "ba-c-\n", "baxxc");
-        Checks.edits("s/$/x/g", "abx\n", "ab");
-        Checks.edits("s/^/x/g", "xab\n", "ab");
-        Checks.edits("s/b*$/x/g", "ax\n", "abb");
-        Checks.edits("s/\\(.\\)\\(.\\)/\\2\\1/g", "badce\n", "abcde");
-        Checks.edits("s/b/[&\\&\\/\\\\\\n]/", "a[b&/\\\n]c\n", "abc");
-        Checks.edits("s/a//g", "b\n", "aabaa");
-        Checks.edits("s/\\(.\\)\\(.\\)\\(.\\)/\\3\\2\\1/", "cbad\n", "abcd");
-        StreamForge often = Checks.edits("s/.*/&&&/;s/x*//g", "12345678901234567890".repeat(3) + "\n",
-                "12345678901234567890");
-        Checks.answers("a replacement at each place", 62, () -> often.ran(4));
-        Checks.edits("s/\\(a*\\)b\\1/<\\1>/", "a<aa>\n", "aaabaa");
-    }
-
-    private static void exchangesAndTexts() {
-        Checks.edits("y/abc/bca/", "bca d\n", "abc d");
-        Checks.edits("y/ab/xx/;y///", "xxc\n", "abc");
-        Checks.edits("N;y/ /_/", "a_b\nc_d\n", "a b", "c d");
-        Checks.edits("a  x ;p}", "1\n x ;p}\n2\n x ;p}\n", "1", "2");
-        Checks.edits("a x\na y\ni z", "z\n1\nx\ny\n", "1");
-        Checks.edits("a \ni \nc ", "\n\n\n", "1");
-        Checks.edits("2a x\n1i y", "y\n1\n2\nx\n", "1", "2");
-        Checks.edits("a x\nq", "1\nx\n", "1", "2");
-    }
-
-    private static void changes() {
-        Checks.edits("2c x\np", "a\na\nx\nc\nc\n", "a", "b", "c");
-        Checks.edits("2,3c x", "a\nx\nd\n", "a", "b", "c", "d");
-        Checks.edits("3,2c x", "a\nb\nx\nd\n", "a", "b", "c", "d");
-        Checks.edits("2,3!c x", "x\nb\nc\nx\n", "a", "b", "c", "d");
-        Checks.edits("/b/,/z/c x", "a\n", "a", "b", "c");
-        Checks.edits("$,$c x", "a\n", "a", "b");
-        Checks.edits("a y\nc x", "x\ny\n", "a");
-        StreamForge forge = Checks.edits("h;c x", "x\n", "a");
-        Checks.equal("the space has gone", Checks.space(forge), "");
-        Checks.equal("the hold stays", Checks.hold(forge), "a");
-    }
-
-    private static void deletions() {
-        Checks.edits("d;p", "", "a", "b");
-        Checks.edits("a x\nd", "x\nx\n", "a", "b");
-        Checks.edits("$!N;P;D", "a\nb\nc\n", "a", "b", "c");
-        Checks.edits("D;p", "", "a", "b");
-        Checks.edits("N;a x\nD", "x\nx\nc\n", "a", "b", "c");
-        StreamForge forge = Checks.edits("$d", "a\n", "a", "bc");
-        Checks.equal("d lets the space be", Checks.space(forge), "bc");
-    }
-
-    private static void nextLines() {
-        Checks.edits("n;d", "a\nc\n", "a", "b", "c");
-        Checks.edits("a x\nn;s/$/!/", "a\nx\nb!\n", "a", "b");
-        Checks.edits("a x\nn;d", "a\nx\n", "a");
-        Checks.edits("N;s/[^a-z]/+/", "a+b\nc\n", "a", "b", "c");
-        Checks.edits("a x\nN;s/[^a-z]/+/", "x\na+b\n", "a", "b");
-        Checks.edits("a x\nN;d", "a\nx\n", "a");
-        Checks.edits("$!N;$!N;s/./x/g", "xxxxx\n", "a", "b", "c");
-        Checks.edits("N;N;P;d", "a\n", "a", "b", "c");
-        Checks.edits("N;s/a.b/x/;s/^[^c]*$/y/", "y\n", "a", "b");
-    }
-
-    private static void holds() {
-        Checks.edits("x", "\na\n", "a", "b");
-        Checks.edits("1h;2G", "a\nb\na\n", "a", "b");
-        Checks.edits("H;$!d;g", "\na\nb\n", "a", "b");
-        Checks.edits("1!G;h;$!d", "c\nb\na\n", "a", "b", "c");
-        Checks.edits("h;s/a/b/;G", "b\na\n", "a");
-        Checks.edits("g", "\n", "a");
-    }
-
-    private static void roomOfSpaceAndHold() {
-        String ten = "0123456789";
-        Checks.edits("s/.*/&&&&&&/", ten.repeat(6) + "\n", ten);
-        StreamForge forge = Checks.breaks("s/./x/;s/.*/&&&&&&&/;p", NO_ROOM, "", ten);
-        Checks.equal("nothing is replaced", Checks.space(forge), "x123456789");
-        Checks.answers("replacements", 1, () -> forge.ran(4));
-        String most = ten.repeat(5) + "1234567";
-        Checks.edits("s/^/" + most + "/", most + "abc\n", "abc");
-        Checks.breaks("s/^/" + most + "/", NO_ROOM, "", "abcd");
-        String twenty = ten + ten;
-        Checks.breaks("N;N", NO_ROOM, "", twenty, twenty, twenty);
-        String less = twenty.substring(2);
-        Checks.edits("N;N", twenty + "\n" + twenty + "\n" + less + "\n", twenty, twenty, less);
-        StreamForge tested = Checks.breaks("N;a x\nN", NO_ROOM, "", twenty, twenty, twenty);
-        Checks.answers("room is tested before a line is read", 2, () -> tested.ran(1));
-        Checks.breaks("H;H;H", NO_ROOM, "", twenty);
-        StreamForge held = Checks.breaks("h;H;H", NO_ROOM, "", twenty);
-        Checks.equal("the hold stays", Checks.hold(held), twenty + "\n" + twenty);
-        StreamForge joined = Checks.breaks("h;G;G", NO_ROOM, "", twenty);
-        Checks.equal("the space stays", Checks.space(joined), twenty + "\n" + twenty);
-    }
-
-    private static void roomOfOutput() {
-        String line = "abcdefghijklmnopqrstuvwx";
-        String[] lines = new String[11];
+    private static String[] times(int count, String line, String... behind) {
+        String[] lines = new String[count + behind.length];
         Arrays.fill(lines, line);
-        String told = line + "\n";
-        String text = "1234567890".repeat(4) + "123456789";
-        Checks.edits("1i " + text + "\np", text + "\n" + told.repeat(22), lines);
-        Checks.breaks("1i " + text + "0\np", NO_ROOM, text + "0\n" + told.repeat(21), lines);
-        Checks.breaks("p;p", NO_ROOM, told.repeat(24), lines);
-        // texts that were appended come one by one, and the one without room does not come
-        Checks.breaks("p;$a 12345678901234567890\n$a 123456789012345678901234567890", NO_ROOM,
-                told.repeat(22) + "12345678901234567890\n", lines);
-        StreamForge kept = Checks.breaks("p;$!b;s/a/1/p;s/1/2/p;s/2/3/p;s/3/4/p", NO_ROOM,
-                told.repeat(21) + told.replace('a', '1') + told.replace('a', '2') + told.replace('a', '3'), lines);
-        Checks.equal("s whose p has no room replaces nothing", Checks.space(kept), line.replace('a', '3'));
-        Checks.answers("its replacements", 3, () -> kept.ran(4));
-        // up to 599 characters: there is room for an empty text, and for nothing else
-        String nearly = "1i " + text + "\np;$!b;s/.*//;i 12345678901234567890123\n";
-        String before = text + "\n" + told.repeat(21) + "12345678901234567890123\n";
-        Checks.edits(nearly, before + "\n", lines);
-        Checks.breaks(nearly + "p", NO_ROOM, before + "\n", lines);
-        Checks.breaks(nearly + "=", NO_ROOM, before, lines);
-        Checks.breaks(nearly + "c x", NO_ROOM, before, lines);
-        StreamForge empty = Checks.breaks(nearly + "s/^/x/p", NO_ROOM, before, lines);
-        Checks.equal("s whose p lacks room for its 10", Checks.space(empty), "");
-        Checks.breaks(nearly + "s/^//p", NO_ROOM, before + "\n", lines);
+        System.arraycopy(behind, 0, lines, count, behind.length);
+        return lines;
     }
 
-    private static void roomOfAppended() {
-        String text = "a " + "1234567890".repeat(4) + "123456789\n";
-        String told = text.substring(2);
-        Checks.edits(text.repeat(4), "x\n" + told.repeat(4), "x");
-        Checks.breaks(text.repeat(4) + "a ", NO_ROOM, "", "x");
-        Checks.breaks("p;" + text.repeat(4) + "a x", NO_ROOM, "x\n", "x");
-        Checks.edits(text.repeat(4) + "d", told.repeat(8), "x", "y");
+    private static void answers() {
+        Checks.edits("p", "");
+        Checks.edits("d", "", "a");
+        Checks.edits("p", "a\na\n\n\n", "a", "");
     }
 
-    private static void tooManyCommands() {
-        StreamForge forge = Checks.breaks("p;:a;ba", ArithmeticException.class, "x\n", "x", "y");
-        Checks.answers("commands begun", 200, () -> forge.ran(2));
-        String twenty = "2h;".repeat(20);
-        Checks.edits(twenty, "1\n".repeat(10), "1", "1", "1", "1", "1", "1", "1", "1", "1", "1");
-        StreamForge late = Checks.breaks(twenty, ArithmeticException.class, "1\n".repeat(10),
-                "1", "1", "1", "1", "1", "1", "1", "1", "1", "1", "1");
-        Checks.answers("lines read", 11, () -> late.ran(1));
-        // what stands in a block that is not done is not begun, nor is a } counted
-        StreamForge skipped = Checks.edits("2!d;{p;3{p;p}}", "b\nb\n", "a", "b");
-        Checks.answers("commands begun", 5, () -> skipped.ran(2));
-        Checks.breaks("G;s/^/x/;D;", ArithmeticException.class, "", "");
+    private static void nothingParsed() {
+        Checks.refuses("run of a new object", Checks.NOT_NOW, () -> new StreamForge().run());
+        Checks.leavesAll("run of what is not parsed", Checks.NOT_NOW, () -> Checks.written("p", "a"), StreamForge::run);
+        StreamForge forge = Checks.written("k", "a");
+        Checks.refuses("parse", Checks.WRONG, forge::parse);
+        Checks.refuses("run after a refused parse", Checks.NOT_NOW, forge::run);
+    }
+
+    private static void roomForNextLines() {
+        Checks.edits("N;N", LINE + "\n" + LINE + "\n" + "012345678\n", LINE, LINE, "012345678");
+        Checks.edits("N;N", LINE + "\n" + LINE + "\n" + TEN + "\n", LINE, LINE, TEN);
+        StreamForge forge = Checks.breaks("N;a x\nN;p", Checks.NO_ROOM, "", LINE, LINE, TEN + "a");
+        Checks.equal("the space stays", Checks.space(forge), LINE + "\n" + LINE);
+        Checks.counts("N without room", forge, 0, 2, 3, 1, 0);
+    }
+
+    private static void roomOfTheSpace() {
+        // the hold has 49 characters, so that there is room for 10 and a 10
+        String pair = LINE + "\n" + LINE;
+        Checks.edits("1{h;G;h;d};G", "012345678\n" + pair + "\n", LINE, "012345678");
+        Checks.edits("1{h;G;h;d};G", TEN + "\n" + pair + "\n", LINE, TEN);
+        StreamForge forge = Checks.breaks("1{h;G;h;d};G;p", Checks.NO_ROOM, "", LINE, TEN + "a");
+        Checks.equal("the space stays", Checks.space(forge), TEN + "a");
+        Checks.equal("the hold stays", Checks.hold(forge), pair);
+        // an empty hold brings its 10
+        String most = TEN.repeat(6);
+        Checks.edits("s/.*/&&&&&&/;s/0//;G", most.substring(1) + "\n\n", TEN);
+        Checks.breaks("s/.*/&&&&&&/;G", Checks.NO_ROOM, "", TEN);
+    }
+
+    private static void roomOfTheHold() {
+        String pair = LINE + "\n" + LINE;
+        Checks.edits("1{h;G;h;d};H;x", pair + "\n012345678\n", LINE, "012345678");
+        Checks.edits("1{h;G;h;d};H;x", pair + "\n" + TEN + "\n", LINE, TEN);
+        StreamForge forge = Checks.breaks("1{h;G;h;d};H;p", Checks.NO_ROOM, "", LINE, TEN + "a");
+        Checks.equal("the space stays", Checks.space(forge), TEN + "a");
+        Checks.equal("the hold stays", Checks.hold(forge), pair);
+        String most = TEN.repeat(6);
+        StreamForge full = Checks.edits("s/.*/&&&&&&/;s/0//;H", most.substring(1) + "\n", TEN);
+        Checks.equal("a full hold", Checks.hold(full), "\n" + most.substring(1));
+        Checks.breaks("s/.*/&&&&&&/;H", Checks.NO_ROOM, "", TEN);
+    }
+
+    private static void fullSpaceAndHold() {
+        String most = TEN.repeat(6);
+        String changed = most.replace('1', 'b');
+        StreamForge forge = Checks.edits("s/.*/&&&&&&/;h;x;g;s/0/a/g;x;y/1/b/;P", (changed + "\n").repeat(2), TEN);
+        Checks.equal("the space", Checks.space(forge), changed);
+        Checks.equal("the hold", Checks.hold(forge), most.replace('0', 'a'));
+    }
+
+    /** A script that leaves just this room in the output for what the commands tell on line 11. */
+    private static String leaving(int room, String commands) {
+        return "1,10{p;b\n}\n11i " + "_".repeat(99 - room) + "\n" + commands;
+    }
+
+    private static String before(int room) {
+        return (LINE + "\n").repeat(20) + "_".repeat(99 - room) + "\n";
+    }
+
+    /** What is told on line 11 finds room, and none of it comes where a character's room is missing. */
+    private static void needs(String told, String commands, String... linesFrom11) {
+        String[] lines = times(10, LINE, linesFrom11);
+        int room = told.length();
+        Checks.edits(leaving(room + 1, commands), before(room + 1) + told, lines);
+        Checks.edits(leaving(room, commands), before(room) + told, lines);
+        StreamForge forge = Checks.breaks(leaving(room - 1, commands), Checks.NO_ROOM, before(room - 1), lines);
+        Checks.answers("lines read until it broke", 11, () -> forge.ran(1));
+    }
+
+    private static void roomOfTheOutput() {
+        needs("abc\n", "", "abc");
+        needs("\n", "", "");
+        needs("abc\n", "b;p", "abc");
+        needs("abc\n", "p;d", "abc");
+        needs("a\n", "s/b/\\n/;P;d", "abc");
+        needs("xyz\n", "i xyz\nd", "abc");
+        needs("\n", "i \nd", "abc");
+        needs("11\n", "=;d", "abc");
+        needs("_bc\n", "s/a/_/p;d", "abc");
+        needs("abc\n", "q", "abc", "def");
+        needs("abc\n", "n;d", "abc", "def");
+        needs("abc\n", "n;d", "abc");
+        needs("abc\n", "N;d", "abc");
+        needs("xyz\n", "c xyz", "abc");
+    }
+
+    private static void roomOfTheOutputForWhatIsAppended() {
+        needs("xyz\n", "a xyz\nd", "abc");
+        needs("\n", "a \nd", "abc");
+        needs("xyz\n", "a xyz\nN;d", "abc", "def");
+        needs("xyz\n", "a xyz\nD", "abc");
+        // the space comes before what was appended
+        String[] lines = times(10, LINE, "abc");
+        Checks.edits(leaving(8, "11a xyz"), before(8) + "abc\nxyz\n", lines);
+        Checks.breaks(leaving(7, "11a xyz"), Checks.NO_ROOM, before(7) + "abc\n", lines);
+        Checks.breaks(leaving(7, "11a xyz\nq"), Checks.NO_ROOM, before(7) + "abc\n", lines);
+        Checks.breaks(leaving(7, "11a xyz\nn"), Checks.NO_ROOM, before(7) + "abc\n", lines);
+        Checks.breaks(leaving(3, "11a xyz"), Checks.NO_ROOM, before(3), lines);
+        StreamForge forge = Checks.breaks(leaving(7, "11a xyz\nn;s/d/e/"), Checks.NO_ROOM, before(7) + "abc\n",
+                times(10, LINE, "abc", "def"));
+        Checks.equal("the next line does not come", Checks.space(forge), "abc");
+        Checks.answers("lines read", 11, () -> forge.ran(1));
+    }
+
+    /** D puts out what was appended before it takes the first line away. */
+    private static void roomOfTheOutputForD() {
+        String[] lines = times(10, LINE, "abc");
+        String commands = "\na xyz\ns/b/\\n/;D\n};d";
+        String begin = "1,10{p;b\n}\n/b/{i " + "_".repeat(95);
+        Checks.edits(begin + commands, before(4) + "xyz\n", lines);
+        StreamForge forge = Checks.breaks(begin + "_" + commands, Checks.NO_ROOM, before(3), lines);
+        Checks.equal("the space stays", Checks.space(forge), "a\nc");
+        Checks.answers("cycles", 11, () -> forge.ran(3));
+    }
+
+    private static void fullOutput() {
+        StreamForge forge = Checks.edits("p", (LINE + "\n").repeat(24), times(12, LINE));
+        Checks.answers("characters", 600, () -> forge.ran(0));
+        Checks.breaks("p;p", Checks.NO_ROOM, (LINE + "\n").repeat(24), times(12, LINE));
+        // a run that comes behind it has all its room again
+        Checks.answers("the same run again", 600, forge::run);
+    }
+
+    private static void roomOfWhatIsAppended() {
+        String text = TEN.repeat(20);
+        Checks.edits("a " + text.substring(2) + "\nd", text.substring(2) + "\n", "x");
+        Checks.edits("a " + text.substring(1) + "\nd", text.substring(1) + "\n", "x");
+        StreamForge forge = Checks.breaks("p;a " + text + "\nd", Checks.NO_ROOM, "x\n", "x");
+        Checks.counts("an a without room", forge, 2, 1, 2, 1, 0);
+        Checks.equal("its space", Checks.space(forge), "x");
+        // each text has a 10
+        String quarter = "a " + text.substring(151) + "\n";
+        String told = text.substring(151) + "\n";
+        Checks.edits(quarter.repeat(4), "x\n" + told.repeat(4), "x");
+        Checks.breaks(quarter.repeat(4) + "a ", Checks.NO_ROOM, "", "x");
+        Checks.breaks(quarter.repeat(3) + "a " + text.substring(150), Checks.NO_ROOM, "", "x");
+        Checks.edits(quarter.repeat(3) + "a " + text.substring(152) + "\na ",
+                "x\n" + told.repeat(3) + text.substring(152) + "\n\n", "x");
+    }
+
+    private static void appendedInEachCycle() {
+        String text = TEN.repeat(20).substring(1);
+        Checks.edits("a " + text + "\nd", (text + "\n").repeat(3), "x", "y", "z");
+        // also in one that D begins
+        Checks.edits("s/x/\\n/;a " + text + "\nD", (text + "\n").repeat(2), "axb");
+        // neither i nor c appends
+        Checks.edits("a " + text + "\ni x\nc y", "x\ny\n" + text + "\n", "x");
+    }
+
+    private static void atMostTwoHundredCommands() {
+        String forty = "2h;".repeat(40);
+        StreamForge all = Checks.edits(forty, "1\n".repeat(5), times(5, "1"));
+        Checks.counts("a run of 200 commands", all, 10, 5, 200, 5, 0);
+        StreamForge beyond = Checks.breaks(forty, Checks.TOO_MANY, "1\n".repeat(5), times(6, "1"));
+        Checks.counts("a run of 201 commands", beyond, 10, 6, 200, 6, 0);
+        Checks.edits("2h;".repeat(33), "1\n".repeat(6), times(6, "1"));
+        // the 201st is not done
+        StreamForge late = Checks.breaks(":a;s/^/x/;s/x//;ba", Checks.TOO_MANY, "", "y");
+        Checks.equal("the space", Checks.space(late), "xy");
+        Checks.counts("a loop", late, 0, 1, 200, 1, 133);
+    }
+
+    private static void whatCountsAsBegun() {
+        Checks.counts("a label", Checks.edits(":a", "x\n", "x"), 2, 1, 1, 1, 0);
+        Checks.counts("one that is not done", Checks.edits("2p;$!p", "x\n", "x"), 2, 1, 2, 1, 0);
+        Checks.counts("a block", Checks.edits("{p};{}", "x\nx\n", "x"), 4, 1, 3, 1, 0);
+        Checks.counts("a block that is not done", Checks.edits("2{p;p}", "x\n", "x"), 2, 1, 1, 1, 0);
+        Checks.counts("what a branch leaves out", Checks.edits("bx;p;p;:x", "x\n", "x"), 2, 1, 1, 1, 0);
+        Checks.breaks("p;:a;ba", Checks.TOO_MANY, "x\n", "x", "y");
+        Checks.breaks("{:a;ba}", Checks.TOO_MANY, "", "x");
+        Checks.breaks("G;s/^/x/;D", Checks.TOO_MANY, "", "");
     }
 
     private static void runsAreNew() {
@@ -246,9 +218,26 @@ public final class Promise08RunTest {
         Checks.equal("begins with nothing", Checks.output(forge), ">\na\n>a\nb\n");
         forge.clear(1);
         Checks.answers("a run without lines", 0, forge::run);
+        Checks.counts("it", forge, 0, 0, 0, 0, 0);
         Checks.equal("its space", Checks.space(forge), "");
         Checks.equal("its hold", Checks.hold(forge), "");
         Checks.feed(forge, "q");
         Checks.answers("a run with another line", 4, forge::run);
+        StreamForge broken = Checks.breaks("a x\nh;s/.*/&&&/;G", Checks.NO_ROOM, "", TEN + TEN);
+        broken.clear(1);
+        Checks.feed(broken, "c");
+        Checks.answers("a run behind one that threw", 8, broken::run);
+        Checks.equal("nothing stays appended", Checks.output(broken), "ccc\nc\nx\n");
+    }
+
+    private static void whatAThrowLeaves() {
+        StreamForge forge = Checks.breaks("s/a/b/p;:l;bl", Checks.TOO_MANY, "b\n", "a", "c");
+        Checks.answers("the script", 13, () -> forge.count(0));
+        Checks.answers("the lines", 2, () -> forge.count(1));
+        Checks.answers("the commands", 3, () -> forge.count(2));
+        Checks.answers("where", -2, forge::where);
+        Checks.answers("a match", 0, () -> forge.match(0, 0, 0));
+        Checks.refuses("the run again", Checks.TOO_MANY, forge::run);
+        Checks.equal("its output", Checks.output(forge), "b\n");
     }
 }

@@ -14,23 +14,33 @@ public final class ReuseTest {
 
     public static void main(String[] args) {
         Random random = new Random(40);
-        for (int turn = 0; turn < 300; turn++) {
+        for (int turn = 0; turn < 1500; turn++) {
             StreamForge used = new StreamForge();
-            for (int time = 0; time < 12; time++) {
-                String script = SCRIPTS[random.nextInt(SCRIPTS.length)];
-                String[] lines = new String[random.nextInt(7)];
-                for (int j = 0; j < lines.length; j++) {
-                    lines[j] = LINES[random.nextInt(LINES.length)];
-                }
-                used.clear(0);
-                used.clear(1);
-                String due = told(new StreamForge(), script, lines);
-                String got = told(used, script, lines);
-                Checks.equal("on a used object " + Checks.shown(script), got, due);
+            for (int time = random.nextInt(4); time > 0; time--) {
+                use(used, any(SCRIPTS, random), anyLines(random));
             }
+            String script = any(SCRIPTS, random);
+            String[] lines = anyLines(random);
+            StreamForge fresh = new StreamForge();
+            String what = "on a used object " + Checks.shown(script);
+            Checks.equal(what, use(used, script, lines), use(fresh, script, lines));
+            boolean matches = random.nextBoolean();
+            Checks.equal(what, all(used, matches), all(fresh, matches));
         }
         manyLongScripts();
         Checks.end();
+    }
+
+    private static String any(String[] some, Random random) {
+        return some[random.nextInt(some.length)];
+    }
+
+    private static String[] anyLines(Random random) {
+        String[] lines = new String[random.nextInt(7)];
+        for (int j = 0; j < lines.length; j++) {
+            lines[j] = any(LINES, random);
+        }
+        return lines;
     }
 
     /** Scripts with as many items as can be, again and again, so that room which leaks runs out. */
@@ -45,41 +55,45 @@ public final class ReuseTest {
         }
     }
 
-    private static String told(StreamForge forge, String script, String[] lines) {
+    private static String use(StreamForge forge, String script, String[] lines) {
+        forge.clear(0);
+        forge.clear(1);
         Checks.write(forge, script);
         Checks.feed(forge, lines);
-        StringBuilder told = new StringBuilder();
-        try {
-            told.append(forge.parse());
-        } catch (IllegalArgumentException e) {
-            return "refused at " + forge.where();
+        String parsed = Checks.told(forge::parse) + " " + forge.where();
+        // after a refused script the object runs what it parsed before, which a new one has not
+        return forge.where() >= 0 ? parsed : parsed + " " + Checks.told(forge::run);
+    }
+
+    /** Of a run or of the matches as much as can be asked for in so many calls. */
+    private static String all(StreamForge forge, boolean matches) {
+        if (forge.where() >= 0) {
+            return "";
         }
-        try {
-            told.append(" ").append(forge.run());
-        } catch (IndexOutOfBoundsException | ArithmeticException e) {
-            told.append(" ").append(e.getClass().getSimpleName());
+        StringBuilder told = new StringBuilder();
+        if (matches) {
+            for (int k = 0; k < Math.min(4, forge.count(2)); k++) {
+                for (int j = 0; j < forge.count(1); j++) {
+                    told.append(matches(forge, k, j));
+                }
+            }
+            return told.toString();
         }
         for (int what = 0; what <= 4; what++) {
             told.append(" ").append(forge.ran(what));
         }
-        told.append(Checks.shown(Checks.output(forge)));
-        told.append(Checks.shown(Checks.space(forge))).append(Checks.shown(Checks.hold(forge)));
-        for (int k = 0; k < forge.count(2); k++) {
-            for (int j = 0; j < lines.length; j++) {
-                told.append(matches(forge, k, j));
-            }
+        int length = Math.min(150, forge.ran(0));
+        for (int k = 0; k < length; k++) {
+            told.append((char) forge.out(k));
         }
-        return told.toString();
+        return told.append(Checks.shown(Checks.space(forge))).append(Checks.shown(Checks.hold(forge))).toString();
     }
 
     private static String matches(StreamForge forge, int k, int j) {
         StringBuilder told = new StringBuilder();
-        try {
-            for (int what = 0; what < 8; what++) {
-                told.append(" ").append(forge.match(k, j, what));
-            }
-        } catch (IllegalArgumentException e) {
-            told.append(" no s");
+        for (int what = 0; what < 8; what++) {
+            int asked = what;
+            told.append(" ").append(Checks.told(() -> forge.match(k, j, asked)));
         }
         return told.toString();
     }
