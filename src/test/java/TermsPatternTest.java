@@ -63,6 +63,9 @@ public final class TermsPatternTest {
         Checks.isNone("s/a\n/x/", 3);
         Checks.isNone("s/\\(\n\\)/x/", 4);
         Checks.isNone("s/*/x/", 2);
+        // what stood before in another pattern is not what a * repeats
+        Checks.isNone("/a/,/*b/p", 5);
+        Checks.isNone("/a/s/*/x/", 5);
         Checks.isNone("s/[/x/", 3);
         Checks.isNone("s/\\/x/", 6);
         Checks.isNone("s///x/", 4);
@@ -128,9 +131,12 @@ public final class TermsPatternTest {
             Checks.isNone("s/[^" + c + "]/x/", 4);
             Checks.isNone("s/[a" + c + "]/x/", 4);
             Checks.isNone("s/[!-" + c + "]/x/", 5);
+            Checks.isNone("s/[" + c + "-0]/x/", 3);
             Checks.isNone("s/[a-b" + c + "]/x/", 6);
             Checks.isNone("/[a" + c + "]/p", 3);
         }
+        Checks.isNone("s/[]-a]/x/", 3);
+        Checks.isNone("s/[^]-a]/x/", 4);
         // a \ says nothing in a set, and the first ] ends it
         takes("[\\]", "\\");
         takes("[\\n]", "\\n");
@@ -251,6 +257,7 @@ public final class TermsPatternTest {
         Checks.isNone("s/" + three + "\\4/x/", 17);
         Checks.isNone("s/" + three + "\\0/x/", 17);
         Checks.isNone("s/\\(a\\)\\1*/x/", 9);
+        Checks.isNone("s/\\(a\\)b\\1*/x/", 10);
         // the groups are those of this pattern
         Checks.isNone("/\\(a\\)/s/\\1/x/", 9);
     }

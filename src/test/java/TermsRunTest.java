@@ -236,6 +236,9 @@ public final class TermsRunTest {
         // a 10 at the very beginning, and one at the very end
         Checks.edits("s/x/\\n/;/^a*$/!D", "a\n", "xa");
         Checks.edits("s/x/\\n/;/a/D;s/$/!/", "!\n", "ax");
+        // a space of 60 characters, which is left with 59
+        Checks.edits("/9$/s/.*/&&&&&&/;s/^0/\\n/;s/.$/x/;/^[^1]/D",
+                "123456789" + "0123456789".repeat(4) + "012345678x\n", "0123456789");
         // the commands begin anew, and ranges go on
         Checks.edits("s/x/\\n/g;/a/,/c/s/^/>/;P;D", ">a\n>b\nc\n", "axbxc");
     }
