@@ -1,80 +1,26 @@
-import java.util.ArrayList;
-import java.util.List;
 import java.util.Random;
 
 /** Matches against a plain search that looks at every way, for many patterns and lines. */
 public final class SearchTest {
-    private static final String[] ONES = {"a", "b", "c", ".", "[ab]", "[^a]", "[b-c]", "[^b-c]", "\\.", "[a-]"};
+    private static final Random RANDOM = new Random(20261115);
 
-    /** An item: what it takes, a group's begin or end, or what a group matched. */
-    private record Item(char kind, String taken, int group, boolean star) {
+    private SearchTest() {
     }
-
-    /** A way: where it ends, what the first star takes, and the groups' places. */
-    private record Way(int end, int first, int[] groups) {
-    }
-
-    private final Random random = new Random(20261115);
-    private List<Item> items;
-    private boolean atBeginning;
-    private boolean atEnd;
-    private int groups;
-    private String line;
-    private List<Way> ways;
 
     public static void main(String[] args) {
-        SearchTest test = new SearchTest();
         for (int turn = 0; turn < 4000; turn++) {
-            test.compare(test.newPattern());
+            compare(new PlainSearch(RANDOM, 7));
         }
         Checks.end();
     }
 
-    private String newPattern() {
-        items = new ArrayList<>();
-        groups = 0;
-        StringBuilder pattern = new StringBuilder();
-        atBeginning = random.nextInt(8) == 0;
-        atEnd = random.nextInt(8) == 0;
-        int stars = 0;
-        boolean open = false;
-        for (int left = random.nextInt(8); left > 0; left--) {
-            int choice = random.nextInt(10);
-            int closed = open ? groups - 1 : groups;
-            if (choice == 0 && !open && groups < 3) {
-                open = true;
-                groups++;
-                items.add(new Item('(', "", groups, false));
-                pattern.append("\\(");
-            } else if (choice <= 2 && open) {
-                open = false;
-                items.add(new Item(')', "", groups, false));
-                pattern.append("\\)");
-            } else if (choice == 3 && closed > 0) {
-                int group = 1 + random.nextInt(closed);
-                items.add(new Item('=', "", group, false));
-                pattern.append('\\').append(group);
-            } else {
-                String one = ONES[random.nextInt(ONES.length)];
-                boolean star = stars < 2 && random.nextInt(2) == 0;
-                stars += star ? 1 : 0;
-                items.add(new Item('1', one, 0, star));
-                pattern.append(one).append(star ? "*" : "");
-            }
-        }
-        if (open) {
-            items.add(new Item(')', "", groups, false));
-            pattern.append("\\)");
-        }
-        return (atBeginning ? "^" : "") + pattern + (atEnd ? "$" : "");
-    }
-
-    private void compare(String pattern) {
+    private static void compare(PlainSearch search) {
+        String pattern = search.written();
         StreamForge forge = Checks.parsed("s/" + pattern + "/x/");
         for (int j = 0; j < 5; j++) {
-            line = newLine();
+            String line = newLine();
             Checks.feed(forge, line);
-            int[] due = search();
+            int[] due = search.search(line, 0);
             for (int what = 0; what < 8; what++) {
                 int lineNumber = j;
                 int asked = what;
@@ -84,92 +30,11 @@ public final class SearchTest {
         }
     }
 
-    private String newLine() {
+    private static String newLine() {
         StringBuilder text = new StringBuilder();
-        for (int left = random.nextInt(10); left > 0; left--) {
-            text.append("aabbc.-".charAt(random.nextInt(7)));
+        for (int left = RANDOM.nextInt(10); left > 0; left--) {
+            text.append("aabbc.-".charAt(RANDOM.nextInt(7)));
         }
         return text.toString();
-    }
-
-    private int[] search() {
-        for (int at = 0; at <= (atBeginning ? 0 : line.length()); at++) {
-            ways = new ArrayList<>();
-            follow(0, at, -1, new int[6]);
-            if (!ways.isEmpty()) {
-                return told(at, best());
-            }
-        }
-        return new int[] {-2, -2, -2, -2, -2, -2, -2, -2};
-    }
-
-    private Way best() {
-        Way best = ways.get(0);
-        for (Way way : ways) {
-            if (way.end > best.end || (way.end == best.end && way.first > best.first)) {
-                best = way;
-            }
-        }
-        return best;
-    }
-
-    private int[] told(int at, Way way) {
-        int[] told = {at, way.end - at, -1, -1, -1, -1, -1, -1};
-        for (int g = 0; g < groups; g++) {
-            told[2 + 2 * g] = way.groups[2 * g];
-            told[3 + 2 * g] = way.groups[2 * g + 1] - way.groups[2 * g];
-        }
-        return told;
-    }
-
-    private void follow(int index, int place, int first, int[] marks) {
-        if (index == items.size()) {
-            if (!atEnd || place == line.length()) {
-                ways.add(new Way(place, first, marks));
-            }
-            return;
-        }
-        Item item = items.get(index);
-        int[] next = marks.clone();
-        if (item.kind == '(') {
-            next[2 * item.group - 2] = place;
-            follow(index + 1, place, first, next);
-        } else if (item.kind == ')') {
-            next[2 * item.group - 1] = place;
-            follow(index + 1, place, first, next);
-        } else if (item.kind == '=') {
-            String again = line.substring(marks[2 * item.group - 2], marks[2 * item.group - 1]);
-            if (line.startsWith(again, place)) {
-                follow(index + 1, place + again.length(), first, next);
-            }
-        } else if (!item.star) {
-            if (takes(item, place)) {
-                follow(index + 1, place + 1, first, next);
-            }
-        } else {
-            int count = 0;
-            follow(index + 1, place, first < 0 ? 0 : first, next);
-            while (takes(item, place + count)) {
-                count++;
-                follow(index + 1, place + count, first < 0 ? count : first, next);
-            }
-        }
-    }
-
-    private boolean takes(Item item, int place) {
-        if (place >= line.length()) {
-            return false;
-        }
-        char c = line.charAt(place);
-        return switch (item.taken) {
-            case "." -> true;
-            case "\\." -> c == '.';
-            case "[ab]" -> c == 'a' || c == 'b';
-            case "[^a]" -> c != 'a';
-            case "[b-c]" -> c == 'b' || c == 'c';
-            case "[^b-c]" -> c != 'b' && c != 'c';
-            case "[a-]" -> c == 'a' || c == '-';
-            default -> c == item.taken.charAt(0);
-        };
     }
 }
